@@ -1,0 +1,25 @@
+/** Compares answers with those that are due, and ends a test with exit code 1 if one was wrong. */
+final class Check {
+    private static int wrong = 0;
+
+    private Check() {
+    }
+
+    static void due(String call, int got, int want) {
+        if (got != want) {
+            wrong++;
+            System.out.println(call + " answered " + got + ", due is " + want);
+        }
+    }
+
+    static void due(String call, boolean got, boolean want) {
+        due(call, got ? 1 : 0, want ? 1 : 0);
+    }
+
+    static void end() {
+        System.out.println(wrong == 0 ? "all answers are as due" : wrong + " answers are not as due");
+        if (wrong != 0) {
+            System.exit(1);
+        }
+    }
+}
