@@ -50,7 +50,7 @@ public final class TestsFromUse {
     }
 
     public int call(int kind, int number) {
-        if (!isBelow(kind, KINDS) || !isBelow(number, VALUES) || log.isFull()) {
+        if (!isBelow(kind, KINDS) || !isBelow(number, VALUES)) {
             return NONE;
         }
         return log.add(callOf(kind, number), machine);
@@ -416,10 +416,7 @@ public final class TestsFromUse {
             return row.size();
         }
 
-        boolean isFull() {
-            return row.size() >= LOG_LIMIT;
-        }
-
+        /** The result of the call; NONE, and nothing changes, if the log is full. */
         int add(int call, Machine machine) {
             int place = row.size();
             if (place >= LOG_LIMIT) {

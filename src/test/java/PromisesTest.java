@@ -28,6 +28,7 @@ public final class PromisesTest {
         makeLeavesOut();
         makeNeedsTheSameBranch();
         makeGoesOverItAgain();
+        makeGoesFromTheFirstOn();
         makeUsesTheMachineNow();
         makeRefuses();
         makeOfALongLog();
@@ -385,38 +386,32 @@ public final class PromisesTest {
         Check.due("both branches", x.told(0, 4), 1 | 1 << 5);
     }
 
-    /**
-     * Register 1 is doubled by kind 1 and gets 8 more by kind 0, so a call of kind 0 does nothing
-     * for the last call once a call of kind 1 is behind it. Kind 2 shows register 1, but another
-     * branch of it holds while register 0 is like 1, which kind 3 does and kind 4 undoes.
-     */
     private static void makeGoesOverItAgain() {
         TestsFromUse x = new TestsFromUse();
-        x.branch(0, R3_LIKE_0, 1001, 0);
-        x.branch(1, 102, 3, 0);
-        x.branch(1, 101, 0, 0);
-        x.branch(2, R0_LIKE_0, 0, 0);
-        x.call(0, 0);
-        x.call(0, 0);
-        x.call(1, 0);
-        x.call(0, 0);
-        // r0: 1, 2, 3, 4; without call 0: 1, (1 like 1 -> 0), 1: another end, so it stays.
-        x.make(3);
-        dueRow(x, 0, new int[][] {{0, 0, 1}, {0, 0, 2}, {1, 0, 3}, {0, 0, 4}});
+        // Kind 0 sets register 0 to its number; kind 3 sets register 2 to 9 while register 0 is 0;
+        // kind 5 shows register 2.
+        x.branch(0, R3_LIKE_0, 100, 0);
+        x.branch(3, R0_LIKE_0, 20009, 2);
+        x.branch(5, R3_LIKE_0, 21000, 2);
+        x.call(0, 1);
+        x.call(3, 0);
+        x.call(5, 0);
+        // Call 0 keeps call 1 from setting register 2, so it stays in the first pass; then call 1
+        // goes, and only a second pass finds that call 0 is of no more use.
+        x.make(2);
+        dueRow(x, 0, new int[][] {{5, 0, 0}});
+    }
 
-        TestsFromUse y = new TestsFromUse();
-        // Kind 0 sets register 0 to its number; kind 1 needs it like 1 and sets register 1 to 1;
-        // kind 2 sets register 0 to 2 and kind 3, if register 0 is like 0, does harm to register 2.
-        y.branch(0, R3_LIKE_0, 100, 0);
-        y.branch(3, R0_LIKE_0, 20009, 2);
-        y.branch(5, R3_LIKE_0, 21000, 2);
-        y.call(0, 1);
-        y.call(3, 0);
-        y.call(5, 0);
-        // Call 0 keeps call 1 from its harm, so it stays in the first pass; then call 1 goes, and
-        // only a second pass finds that call 0 is of no more use.
-        y.make(2);
-        dueRow(y, 0, new int[][] {{5, 0, 0}});
+    /** Of two calls of which either one can go, but not both, the first one goes. */
+    private static void makeGoesFromTheFirstOn() {
+        TestsFromUse x = new TestsFromUse();
+        x.branch(0, R3_LIKE_0, 1, 0);
+        x.branch(1, R3_LIKE_0, 1000, 0);
+        x.call(0, 3);
+        x.call(0, 4);
+        x.call(1, 0);
+        x.make(2);
+        dueRow(x, 0, new int[][] {{0, 4, 1}, {1, 0, 1}});
     }
 
     private static void makeUsesTheMachineNow() {
@@ -500,7 +495,11 @@ public final class PromisesTest {
         Check.due("with what is known of them", x.told(1, 1), 1);
         Check.due("each with its own", x.told(2, 1), 0);
         Check.due("none behind the last", x.told(3, 0), NONE);
-        Check.due("drop of the last", x.drop(2), true);
+        Check.due("a new test behind the last", x.make(1), 3);
+        Check.due("it has its own row", x.row(3, 0, 1), 1);
+        Check.due("the one ahead of it keeps its own", x.row(2, 0, 1), 3);
+        Check.due("drop of the last", x.drop(3), true);
+        Check.due("drop of the one ahead", x.drop(2), true);
         Check.due("no like one is there any more", x.make(1), 2);
         Check.due("a test in a used place is not touched", x.told(2, 1), 0);
         Check.due("a like one is there", x.make(0), NONE);
@@ -692,7 +691,6 @@ public final class PromisesTest {
         Check.due("never without use", x.never(), 3 | 15 << 20);
     }
 
-    /** Kinds 0 to 5 with a branch each that always holds, and a test for each of the numbers. */
     private static void fewestAndChosen() {
         TestsFromUse x = new TestsFromUse();
         x.branch(0, R0_LIKE_0, 1001, 0);
@@ -755,35 +753,31 @@ public final class PromisesTest {
         Check.due("the least number among alike ones", x.chosen(), 1 | 1 << 4 | 1 << 8);
     }
 
-    /** The test that meets most branches is not in the fewest. */
+    /** The test that meets most branches is not among the fewest. */
     private static void fewestIsNotGreedy() {
         TestsFromUse x = new TestsFromUse();
-        x.branch(0, 101, 1001, 0);
-        x.branch(0, 102, 1001, 0);
-        x.branch(0, 104, 1001, 0);
-        x.branch(0, 105, 1001, 0);
-        x.branch(1, 101, 1001, 0);
-        x.branch(1, 104, 1001, 0);
-        x.branch(2, R0_LIKE_0, 100, 0);
-        // Test 0 meets 0, 1 and 4 0's like; see the bits below.
-        int[][] uses = {{1, 0, 0}, {4, 0, 0}, {1, 1, 0}, {4, 1, 0}};
+        for (int kind = 0; kind <= 5; kind++) {
+            x.branch(kind, 1100 + kind, 11001, 1);
+        }
+        // Each call needs those ahead of it: the row of call k meets kinds 0 .. k.
+        int[][] uses = {{0, 1, 2, 3}, {0, 1, 4}, {2, 3, 5}};
+        int[][] starts = {{0, 1, 2, 3}, {0, 1, 2}, {0, 1, 2}};
         for (int i = 0; i < uses.length; i++) {
+            for (int k = 0; k < uses[i].length; k++) {
+                x.change(4 * uses[i][k], 1100 + starts[i][k], 11001, 1);
+                x.call(uses[i][k], 0);
+            }
+            x.make(uses[i].length - 1);
             x.fresh();
-            x.call(2, uses[i][0]);
-            x.call(uses[i][1], 0);
-            x.call(uses[i][2], 0);
-            x.make(2);
         }
-        int[] due = {1 | 2 | 1 << 8, 4 | 8 | 1 << 8, 2 | 1 << 4 | 1 << 8, 8 | 1 << 5 | 1 << 8};
-        for (int i = 0; i < due.length; i++) {
-            Check.due("met of test " + i, x.told(i, 4), due[i]);
+        for (int kind = 0; kind <= 5; kind++) {
+            x.change(4 * kind, R3_LIKE_0, 11001, 1);
         }
-        Check.due("fewest that meet all", x.fewest(), 4);
-        x.drop(3);
-        Check.due("fewest of three", x.fewest(), 3);
-        x.drop(0);
-        Check.due("fewest of two", x.fewest(), 2);
-        Check.due("chosen of two", x.chosen(), 3);
+        Check.due("test 0 meets four", x.told(0, 5), 1 | 1 << 4 | 1 << 8 | 1 << 12);
+        Check.due("test 1 meets three", x.told(1, 5), 1 | 1 << 4 | 1 << 16);
+        Check.due("test 2 meets the other three", x.told(2, 5), 1 << 8 | 1 << 12 | 1 << 20);
+        Check.due("fewest of the three", x.fewest(), 2);
+        Check.due("chosen of the three", x.chosen(), 2 | 4);
     }
 
     private static void register() {
