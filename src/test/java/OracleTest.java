@@ -2,7 +2,11 @@ import java.util.Random;
 
 /** Random runs of 512 calls, the same each time, answered by the program and by the oracle. */
 public final class OracleTest {
+    /** The document promises nothing of an object behind this many calls. */
     private static final int CALLS = 512;
+
+    /** A step asks for all of a thing at once, in so many calls at most. */
+    private static final int CALLS_OF_A_STEP = 8;
 
     /** How often each of the 18 methods is called, in some ways of use. */
     private static final int[][] WAYS = {
@@ -16,6 +20,7 @@ public final class OracleTest {
     private final TestsFromUse program = new TestsFromUse();
     private final Oracle oracle = new Oracle();
     private final boolean steady;
+    private int calls = 0;
 
     private OracleTest(long seed) {
         random = new Random(seed);
@@ -34,9 +39,18 @@ public final class OracleTest {
         for (int kind = 0; kind < 6; kind++) {
             compareCall(0, name);
         }
-        for (int i = 6; i < CALLS; i++) {
+        while (calls + CALLS_OF_A_STEP <= CALLS) {
             compareCall(method(way), name);
         }
+    }
+
+    private void due(String call, int got, int want) {
+        calls++;
+        Check.due(call, got, want);
+    }
+
+    private void due(String call, boolean got, boolean want) {
+        due(call, got ? 1 : 0, want ? 1 : 0);
     }
 
     private int method(int[] way) {
@@ -94,7 +108,7 @@ public final class OracleTest {
                 int when = when();
                 int then = then();
                 int result = below(4);
-                Check.due(name + "branch", program.branch(kind, when, then, result),
+                due(name + "branch", program.branch(kind, when, then, result),
                     oracle.branch(kind, when, then, result));
             }
             case 1 -> {
@@ -102,51 +116,51 @@ public final class OracleTest {
                 int when = when();
                 int then = then();
                 int result = below(4);
-                Check.due(name + "change", program.change(which, when, then, result),
+                due(name + "change", program.change(which, when, then, result),
                     oracle.change(which, when, then, result));
             }
             case 2 -> {
                 int kind = below(6);
                 int number = below(16);
-                Check.due(name + "call", program.call(kind, number), oracle.call(kind, number));
+                due(name + "call", program.call(kind, number), oracle.call(kind, number));
             }
             case 3 -> {
                 if (random.nextInt(4) == 0) {
-                    Check.due(name + "fresh", program.fresh(), oracle.fresh());
+                    due(name + "fresh", program.fresh(), oracle.fresh());
                 }
             }
             case 4 -> {
                 for (int what = -1; what <= 4; what++) {
-                    Check.due(name + "logged", program.logged(call, what), oracle.logged(call, what));
+                    due(name + "logged", program.logged(call, what), oracle.logged(call, what));
                 }
             }
-            case 5 -> Check.due(name + "make", program.make(call), oracle.make(call));
-            case 6 -> Check.due(name + "drop", program.drop(test), oracle.drop(test));
+            case 5 -> due(name + "make", program.make(call), oracle.make(call));
+            case 6 -> due(name + "drop", program.drop(test), oracle.drop(test));
             case 7 -> {
                 for (int what = -1; what <= 6; what++) {
-                    Check.due(name + "told", program.told(test, what), oracle.told(test, what));
+                    due(name + "told", program.told(test, what), oracle.told(test, what));
                 }
             }
             case 8 -> {
                 int k = below(Math.max(0, oracle.told(test, 0)));
                 for (int what = -1; what <= 4; what++) {
-                    Check.due(name + "row", program.row(test, k, what), oracle.row(test, k, what));
+                    due(name + "row", program.row(test, k, what), oracle.row(test, k, what));
                 }
             }
-            case 9 -> Check.due(name + "differs", program.differs(test), oracle.differs(test));
-            case 10 -> Check.due(name + "run", program.run(), oracle.run());
-            case 11 -> Check.due(name + "accept", program.accept(test), oracle.accept(test));
-            case 12 -> Check.due(name + "reached", program.reached(), oracle.reached());
-            case 13 -> Check.due(name + "never", program.never(), oracle.never());
-            case 14 -> Check.due(name + "fewest", program.fewest(), oracle.fewest());
-            case 15 -> Check.due(name + "chosen", program.chosen(), oracle.chosen());
+            case 9 -> due(name + "differs", program.differs(test), oracle.differs(test));
+            case 10 -> due(name + "run", program.run(), oracle.run());
+            case 11 -> due(name + "accept", program.accept(test), oracle.accept(test));
+            case 12 -> due(name + "reached", program.reached(), oracle.reached());
+            case 13 -> due(name + "never", program.never(), oracle.never());
+            case 14 -> due(name + "fewest", program.fewest(), oracle.fewest());
+            case 15 -> due(name + "chosen", program.chosen(), oracle.chosen());
             case 16 -> {
                 int register = below(4);
-                Check.due(name + "register", program.register(register), oracle.register(register));
+                due(name + "register", program.register(register), oracle.register(register));
             }
             default -> {
                 int what = below(6);
-                Check.due(name + "count", program.count(what), oracle.count(what));
+                due(name + "count", program.count(what), oracle.count(what));
             }
         }
     }

@@ -28,6 +28,8 @@ public final class PromisesTest {
         makeLeavesOut();
         makeNeedsTheSameBranch();
         makeGoesOverItAgain();
+        makeGoesOverItTillNoneGoes();
+        makeGoesOnToTheLastBeforeItGoesAgain();
         makeGoesFromTheFirstOn();
         makeUsesTheMachineNow();
         makeRefuses();
@@ -400,6 +402,38 @@ public final class PromisesTest {
         // goes, and only a second pass finds that call 0 is of no more use.
         x.make(2);
         dueRow(x, 0, new int[][] {{5, 0, 0}});
+    }
+
+    /** Each pass leaves out one call: the last, then the one ahead of it, then the first. */
+    private static void makeGoesOverItTillNoneGoes() {
+        TestsFromUse x = new TestsFromUse();
+        // Without call 0, call 1 spoils register 3; without call 1, call 2 does.
+        x.branch(0, R3_LIKE_0, 1, 0);
+        x.branch(1, 101, 10001, 1);
+        x.branch(1, R3_LIKE_0, 30009, 3);
+        x.branch(2, 1100, 30009, 3);
+        x.branch(3, 2100, 31000, 3);
+        x.call(0, 0);
+        x.call(1, 0);
+        x.call(2, 0);
+        x.call(3, 0);
+        x.make(3);
+        dueRow(x, 0, new int[][] {{3, 0, 0}});
+    }
+
+    /** A call that went makes room for an earlier one to go, but first the later ones are looked at. */
+    private static void makeGoesOnToTheLastBeforeItGoesAgain() {
+        TestsFromUse x = new TestsFromUse();
+        // Calls 0 and 2 do the same; call 1 spoils register 3 if call 0 is not there.
+        x.branch(0, R3_LIKE_0, 1, 0);
+        x.branch(1, R0_LIKE_0, 30009, 3);
+        x.branch(2, R3_LIKE_0, 1000, 0);
+        x.call(0, 3);
+        x.call(1, 0);
+        x.call(0, 4);
+        x.call(2, 0);
+        x.make(3);
+        dueRow(x, 0, new int[][] {{0, 3, 1}, {2, 0, 1}});
     }
 
     /** Of two calls of which either one can go, but not both, the first one goes. */
