@@ -35,12 +35,16 @@ public final class PromisesTest {
         makeRefuses();
         makeOfALongLog();
         drop();
+        dropMovesBrokenOnes();
         told();
         toldMetStaysTillAccepted();
         row();
         differs();
         run();
         runMendsBrokenOnes();
+        brokenOnesBreakAgain();
+        otherBranchesDoNotBreak();
+        aResultInTheMiddleBreaks();
         accept();
         reachedAndNever();
         fewestAndChosen();
@@ -543,6 +547,28 @@ public final class PromisesTest {
         Check.due("drop of none", x.drop(0), false);
     }
 
+    private static void dropMovesBrokenOnes() {
+        TestsFromUse x = counter();
+        x.call(0, 0);
+        x.call(1, 0);
+        x.call(1, 5);
+        x.make(0);
+        x.make(1);
+        x.make(2);
+        x.change(4, R3_LIKE_0, 10200, 1);
+        x.run();
+        Check.due("the last one is broken", x.told(2, 2), 1);
+        x.drop(0);
+        Check.due("the first one now is not broken", x.told(0, 2), 0);
+        Check.due("the broken one came up", x.told(1, 2), 1);
+        Check.due("with what it met", x.told(1, 4), 1 << 4);
+        Check.due("with what it asks for", x.row(1, 0, 2), 5);
+        Check.due("with what it gives", x.row(1, 0, 3), 10);
+        Check.due("one is broken", x.count(4), 1);
+        x.drop(1);
+        Check.due("none is broken any more", x.count(4), 0);
+    }
+
     private static void told() {
         TestsFromUse x = counter();
         x.call(0, 0);
@@ -669,6 +695,60 @@ public final class PromisesTest {
         Check.due("but is broken till it is run", x.told(0, 2), 1);
         Check.due("run", x.run(), 0);
         Check.due("it is broken no more", x.count(4), 0);
+    }
+
+    /** "BROKEN (till they are run again and don't, or are accepted)": run again, it may break again. */
+    private static void brokenOnesBreakAgain() {
+        TestsFromUse x = counter();
+        x.call(0, 0);
+        x.make(0);
+        x.change(0, 15, 1002, 0);
+        Check.due("it breaks", x.run(), 1);
+        x.change(0, 15, 1003, 0);
+        Check.due("a broken one is touched as others are", x.told(0, 1), 1);
+        Check.due("it breaks again", x.run(), 1);
+        Check.due("it stays broken", x.told(0, 2), 1);
+        Check.due("one is broken, not two", x.count(4), 1);
+        x.accept(0);
+        Check.due("accepted, it is not broken", x.count(4), 0);
+        x.change(0, 15, 1003, 0);
+        Check.due("run of what it asks for now", x.run(), 0);
+        x.change(0, 15, 1001, 0);
+        Check.due("what it asked for at first breaks it", x.run(), 1);
+    }
+
+    /** "A TEST BREAKS, if a RESULT of its ROW .. is another one": the branches that it meets may be others. */
+    private static void otherBranchesDoNotBreak() {
+        TestsFromUse x = new TestsFromUse();
+        x.branch(0, R0_LIKE_0, 1001, 0);
+        x.branch(0, 101, 1001, 0);
+        x.branch(0, 202, 1009, 0);
+        x.call(0, 0);
+        x.call(0, 0);
+        x.make(1);
+        x.change(0, 5, 1001, 0);
+        Check.due("it meets fewer", x.told(0, 5), 1);
+        Check.due("it is touched", x.told(0, 1), 1);
+        Check.due("it would not break", x.told(0, 3), 0);
+        Check.due("none breaks", x.run(), 0);
+        Check.due("it is not broken", x.told(0, 2), 0);
+        Check.due("no call of the log differs", x.count(5), 0);
+    }
+
+    /** A result in the middle of a row breaks it, though its last result is as asked for. */
+    private static void aResultInTheMiddleBreaks() {
+        TestsFromUse x = new TestsFromUse();
+        x.branch(0, R0_LIKE_0, 1001, 0);
+        x.branch(1, 101, 10007, 1);
+        x.call(0, 0);
+        x.call(1, 0);
+        x.make(1);
+        Check.due("both calls", x.told(0, 0), 2);
+        x.change(0, R0_LIKE_0, 1001, 2);
+        Check.due("the last result is as asked for", x.row(0, 1, 3), x.row(0, 1, 2));
+        Check.due("it would break", x.told(0, 3), 1);
+        Check.due("at its first call", x.differs(0), 0);
+        Check.due("it breaks", x.run(), 1);
     }
 
     private static void accept() {
